@@ -24,12 +24,18 @@ final class Check {
         }
     }
 
-    /** The answer of a call, or the exact class of what it throws, as a text. */
+    /**
+     * The answer of a call, or the exact class of what it throws, as a text. What the class did not throw
+     * itself, by a throw statement in the method that was called, is told as the machine's.
+     */
     static String outcome(Call call) {
         try {
             return String.valueOf(call.answer());
         } catch (RuntimeException e) {
-            return "throws " + e.getClass().getSimpleName();
+            StackTraceElement[] trace = e.getStackTrace();
+            boolean isOwn = trace.length > 0 && trace[0].getClassName().equals("Lacehall")
+                    && !"/ by zero".equals(e.getMessage());
+            return (isOwn ? "throws " : "the machine throws ") + e.getClass().getSimpleName();
         }
     }
 
