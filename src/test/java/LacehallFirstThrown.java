@@ -1,5 +1,7 @@
-/** Where several conditions of a method apply, the one that is listed first is thrown, and nothing is changed. */
+/** Where several conditions of a method apply, the first one listed is thrown, and nothing is changed. */
 public final class LacehallFirstThrown {
+    /** A worked pin of the row 10 at the column 4 and eleven more of the rows behind it. */
+    private static final Edge.Steps FULL = Halls::fullPattern;
     private static final int[] NO_COLUMNS = {Integer.MIN_VALUE, -1, 10, Integer.MAX_VALUE};
     private static final int[] NO_PIN_COLUMNS = {Integer.MIN_VALUE, -1, 9, Integer.MAX_VALUE};
     private static final int[] NO_PINS = {Integer.MIN_VALUE, -1, 12, Integer.MAX_VALUE};
@@ -44,7 +46,8 @@ public final class LacehallFirstThrown {
     private static void pairs() {
         Edge.refused("7: a pair, and twenty threads", Halls::hangAll, hall -> hall.hang(9), Edge.UNSUPPORTED);
         for (int column : NO_COLUMNS) {
-            Edge.refused("7: no column, and twenty threads", Halls::hangAll, hall -> hall.hang(column), Edge.OUT);
+            Edge.refused("7: no column, and twenty threads", Halls::hangAll, hall -> hall.hang(column),
+                    Edge.OUT);
             Edge.refused("8: no column, and no pair", hall -> { }, hall -> hall.end(column), Edge.OUT);
         }
     }
@@ -63,19 +66,12 @@ public final class LacehallFirstThrown {
         }
     }
 
-    /** A worked pin of the row 10 at the column 4 and eleven more of the rows behind it. */
-    private static void full(Lacehall hall) {
-        Halls.fullPattern(hall);
-    }
-
     private static void pinColumnsAndStitches() {
         for (int column : NO_PIN_COLUMNS) {
             for (int row : NO_ROWS) {
-                Edge.refused("16: no column, no row", LacehallFirstThrown::full, hall -> hall.pin(column, row, 0),
-                        Edge.OUT);
+                Edge.refused("16: no column, no row", FULL, hall -> hall.pin(column, row, 0), Edge.OUT);
             }
-            Edge.refused("16: no column, and twelve", LacehallFirstThrown::full, hall -> hall.pin(column, 50, 0),
-                    Edge.OUT);
+            Edge.refused("16: no column, and twelve", FULL, hall -> hall.pin(column, 50, 0), Edge.OUT);
         }
         // The column 9 would touch a pin at 8, and the column -1 one at 0.
         Edge.refused("16: no column, the same row", hall -> atBothSides(hall), hall -> hall.pin(9, 50, 0),
@@ -84,15 +80,12 @@ public final class LacehallFirstThrown {
                 Edge.OUT);
         for (int stitch : NO_STITCHES) {
             for (int row : NO_ROWS) {
-                Edge.refused("16: no stitch, no row", LacehallFirstThrown::full, hall -> hall.pin(4, row, stitch),
-                        Edge.OUT);
+                Edge.refused("16: no stitch, no row", FULL, hall -> hall.pin(4, row, stitch), Edge.OUT);
             }
-            Edge.refused("16: no stitch, the same row", LacehallFirstThrown::full,
-                    hall -> hall.pin(4, 15, stitch), Edge.OUT);
-            Edge.refused("16: no stitch, a greater row is worked", LacehallFirstThrown::full,
+            Edge.refused("16: no stitch, the same row", FULL, hall -> hall.pin(4, 15, stitch), Edge.OUT);
+            Edge.refused("16: no stitch, a greater row is worked", FULL,
                     hall -> hall.pin(4, 9, stitch), Edge.OUT);
-            Edge.refused("16: no stitch, and twelve", LacehallFirstThrown::full, hall -> hall.pin(0, 50, stitch),
-                    Edge.OUT);
+            Edge.refused("16: no stitch, and twelve", FULL, hall -> hall.pin(0, 50, stitch), Edge.OUT);
         }
     }
 
@@ -104,8 +97,7 @@ public final class LacehallFirstThrown {
 
     private static void pinRows() {
         for (int row : NO_ROWS) {
-            Edge.refused("16: no row, and twelve", LacehallFirstThrown::full, hall -> hall.pin(0, row, 0),
-                    Edge.ARGUMENT);
+            Edge.refused("16: no row, and twelve", FULL, hall -> hall.pin(0, row, 0), Edge.ARGUMENT);
         }
         for (int row : new int[] {Integer.MIN_VALUE, -1}) {
             Edge.Steps two = hall -> {
@@ -114,8 +106,9 @@ public final class LacehallFirstThrown {
                 hall.pin(4, 0, 0);
                 hall.work(0);
             };
-            Edge.refused("16: no row, a greater one is worked", two, hall -> hall.pin(4, row, 0), Edge.ARGUMENT);
-            Edge.refused("16: no row, a greater one is worked, and twelve", LacehallFirstThrown::full,
+            Edge.refused("16: no row, a greater one is worked", two, hall -> hall.pin(4, row, 0),
+                    Edge.ARGUMENT);
+            Edge.refused("16: no row, a greater one is worked, and twelve", FULL,
                     hall -> hall.pin(4, row, 0), Edge.ARGUMENT);
         }
     }
@@ -123,27 +116,23 @@ public final class LacehallFirstThrown {
     private static void pinsInTheWay() {
         for (int i = 3; i <= 5; i++) {
             int column = i;
-            Edge.refused("16: the same row, and twelve", LacehallFirstThrown::full,
+            Edge.refused("16: the same row, and twelve", FULL,
                     hall -> hall.pin(column, 21, 0), Edge.UNSUPPORTED);
-            Edge.refused("16: a greater row is worked, and twelve", LacehallFirstThrown::full,
+            Edge.refused("16: a greater row is worked, and twelve", FULL,
                     hall -> hall.pin(column, 9, 0), Edge.UNSUPPORTED);
         }
-        Edge.refused("16: twelve alone", LacehallFirstThrown::full, hall -> hall.pin(6, 9, 0), Edge.STATE);
+        Edge.refused("16: twelve alone", FULL, hall -> hall.pin(6, 9, 0), Edge.STATE);
     }
 
     private static void sewings() {
         for (int column : NO_COLUMNS) {
-            Edge.refused("21: no column, the pin is not worked", LacehallFirstThrown::full,
-                    hall -> hall.sew(column, 1), Edge.OUT);
-            Edge.refused("21: no column, too far apart", LacehallFirstThrown::full,
-                    hall -> hall.sew(column, 0), Edge.OUT);
+            Edge.refused("21: no column, the pin is not worked", FULL, hall -> hall.sew(column, 1), Edge.OUT);
+            Edge.refused("21: no column, too far apart", FULL, hall -> hall.sew(column, 0), Edge.OUT);
         }
         for (int pin : NO_PINS) {
-            Edge.refused("21: no pin, the column has no pair", LacehallFirstThrown::full,
-                    hall -> hall.sew(3, pin), Edge.OUT);
+            Edge.refused("21: no pin, the column has no pair", FULL, hall -> hall.sew(3, pin), Edge.OUT);
             for (int column : NO_COLUMNS) {
-                Edge.refused("21: no pin, no column", LacehallFirstThrown::full, hall -> hall.sew(column, pin),
-                        Edge.OUT);
+                Edge.refused("21: no pin, no column", FULL, hall -> hall.sew(column, pin), Edge.OUT);
             }
         }
     }
@@ -151,13 +140,11 @@ public final class LacehallFirstThrown {
     /** What is not there is not worked either, and cannot be. */
     private static void worked() {
         for (int pin : NO_PINS) {
-            Edge.refused("18: no pin, so it cannot be worked", LacehallFirstThrown::full, hall -> hall.work(pin),
-                    Edge.OUT);
-            Edge.refused("20: no pin, so it is not worked", LacehallFirstThrown::full, hall -> hall.undo(pin),
-                    Edge.OUT);
+            Edge.refused("18: no pin, so it cannot be worked", FULL, hall -> hall.work(pin), Edge.OUT);
+            Edge.refused("20: no pin, so it is not worked", FULL, hall -> hall.undo(pin), Edge.OUT);
         }
         Edge.refused("20: not worked, and it could not be undone", hall -> {
-            full(hall);
+            FULL.on(hall);
             hall.end(4);
         }, hall -> hall.undo(1), Edge.UNSUPPORTED);
     }
@@ -165,24 +152,21 @@ public final class LacehallFirstThrown {
     private static void colours() {
         for (int place : NO_PLACES) {
             for (int pin : NO_PINS) {
-                Edge.refused("24: no pin, no place", LacehallFirstThrown::full, hall -> hall.colourAt(pin, place),
-                        Edge.OUT);
+                Edge.refused("24: no pin, no place", FULL, hall -> hall.colourAt(pin, place), Edge.OUT);
             }
-            Edge.refused("24: no place, not worked", LacehallFirstThrown::full, hall -> hall.colourAt(1, place),
-                    Edge.ARGUMENT);
+            Edge.refused("24: no place, not worked", FULL, hall -> hall.colourAt(1, place), Edge.ARGUMENT);
         }
         for (int pin : NO_PINS) {
-            Edge.refused("24: no pin, so it is not worked", LacehallFirstThrown::full,
-                    hall -> hall.colourAt(pin, 0), Edge.OUT);
+            Edge.refused("24: no pin, so it is not worked", FULL, hall -> hall.colourAt(pin, 0), Edge.OUT);
         }
     }
 
     private static void grounds() {
         for (int pairs : new int[] {Integer.MIN_VALUE, -1, 0, 1, 5, Integer.MAX_VALUE}) {
             for (int stitch : NO_STITCHES) {
-                Edge.refused("25: no such pairs, no stitch", LacehallFirstThrown::full,
+                Edge.refused("25: no such pairs, no stitch", FULL,
                         hall -> hall.closesBehind(pairs, stitch, 0), Edge.ARGUMENT);
-                Edge.refused("25: no such pairs, no other", LacehallFirstThrown::full,
+                Edge.refused("25: no such pairs, no other", FULL,
                         hall -> hall.closesBehind(pairs, 0, stitch), Edge.ARGUMENT);
             }
         }

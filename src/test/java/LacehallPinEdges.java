@@ -1,4 +1,7 @@
-/** The edges of pins, of what can be worked, of orders and of workers: promises 16 to 19, 22 to 24, 26 to 28, 30. */
+/**
+ * The edges of pins, of what can be worked, of orders and of workers: promises 16 to 19, 22 to 24, 26 to 28
+ * and 30.
+ */
 public final class LacehallPinEdges {
     private static final int MIN = Integer.MIN_VALUE;
     private static final int MAX = Integer.MAX_VALUE;

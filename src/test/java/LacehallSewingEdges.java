@@ -266,6 +266,19 @@ public final class LacehallSewingEdges {
         Edge.allowed("20: what is not worked does not count", chain(3, 4, 0, 1), hall -> hall.undo(0), 2);
         Edge.allowed("20: two columns away", chain(3, 4, 0, 1, 2), hall -> hall.undo(3), 1);
         Edge.allowed("20: two columns away", chain(3, 4, 0, 1, 2), hall -> hall.undo(4), 1);
+        // The pin 8 is ahead of the pin 7 alone, that one of the pin 6, and so on to the pin 0.
+        Edge.Steps backwards = hall -> {
+            Halls.stitches(hall, "ctc");
+            Halls.hangAll(hall);
+            for (int column = 8; column >= 0; column--) {
+                hall.pin(column, column, 0);
+            }
+            Halls.work(hall, 8, 7, 6, 5, 4, 3, 2, 1, 0);
+        };
+        for (int i = 0; i < 9; i++) {
+            int pin = i;
+            Edge.allowed("20: a row of pins from " + i, backwards, hall -> hall.undo(pin), i + 1);
+        }
     }
 
     private static void bars(String what, Edge.Steps steps, int pin) {
@@ -329,7 +342,7 @@ public final class LacehallSewingEdges {
         }
     }
 
-    /** A pair that was hung bars alone where a pin behind has its column: it had none when the pin was worked. */
+    /** Of the pin's own columns a pair must end before one can be hung, so that this bars already. */
     private static void hungInAColumn() {
         Edge.Steps unused = hall -> {
             chainWithoutPairs(hall);
