@@ -1,10 +1,11 @@
 import java.util.ArrayList;
+import java.util.Arrays;
 import java.util.HashMap;
 import java.util.List;
 import java.util.Map;
 import java.util.Random;
 
-/** areAlike against what braids make of the free group: all short words, and long ones at random. */
+/** areAlike against what braids make of the free group: each two short words, and each word by its places. */
 public final class LacehallBraids {
     private static final int SHORT = 5;
 
@@ -12,6 +13,7 @@ public final class LacehallBraids {
         compareShortWords();
         compareLongWords();
         compareShuffledWords();
+        compareAllWords();
         Check.finish("LacehallBraids");
     }
 
@@ -105,6 +107,78 @@ public final class LacehallBraids {
             String word = one[random.nextInt(one.length)] + "c" + two[random.nextInt(two.length)];
             String other = one[random.nextInt(one.length)] + "c" + two[random.nextInt(two.length)];
             Check.is(word + " is like " + other, hallOf(List.of(word, other)).areAlike(0, 1), true);
+        }
+    }
+
+    /** The same word with each t first, then each l, then each r, between one c and the next one. */
+    private static String sorted(String word) {
+        StringBuilder sorted = new StringBuilder();
+        int[] times = new int[2];
+        for (char letter : (word + "c").toCharArray()) {
+            times[0] += letter == 'l' || letter == 't' ? 1 : 0;
+            times[1] += letter == 'r' || letter == 't' ? 1 : 0;
+            if (letter == 'c') {
+                int both = Math.min(times[0], times[1]);
+                sorted.append("t".repeat(both)).append("l".repeat(times[0] - both));
+                sorted.append("r".repeat(times[1] - both)).append('c');
+                times = new int[2];
+            }
+        }
+        return sorted.substring(0, sorted.length() - 1);
+    }
+
+    /** Where the threads go, and how often each is above each other one: what is easily seen of a word. */
+    private static String seen(String word) {
+        int[] threads = {0, 1, 2, 3};
+        int[] over = new int[16];
+        for (char letter : word.replace("t", "lr").toCharArray()) {
+            int above = letter == 'c' || letter == 'l' ? 1 : 3;
+            int below = letter == 'l' ? 0 : 2;
+            over[4 * threads[above] + threads[below]]++;
+            int held = threads[above];
+            threads[above] = threads[below];
+            threads[below] = held;
+        }
+        return Arrays.toString(threads) + Arrays.toString(over);
+    }
+
+    /**
+     * Each of the 87380 words is like what it is sorted to; and of the 13120 sorted ones each two of which the
+     * same is seen are alike just if they make the same of the free group.
+     */
+    private static void compareAllWords() {
+        Map<String, List<String>> sortedBySeen = new HashMap<>();
+        List<String> words = new ArrayList<>(List.of(""));
+        for (int i = 0; i < words.size(); i++) {
+            String word = words.get(i);
+            for (int j = 0; j < 4 && word.length() < 8; j++) {
+                words.add(word + "clrt".charAt(j));
+            }
+            if (sorted(word).equals(word) && !word.isEmpty()) {
+                sortedBySeen.computeIfAbsent(seen(word), key -> new ArrayList<>()).add(word);
+            }
+        }
+        Check.is("the number of all words", words.size() - 1, 87380);
+        for (int i = 1; i < words.size(); i += 6) {
+            compareWithSorted(words.subList(i, Math.min(i + 6, words.size())));
+        }
+        for (List<String> same : sortedBySeen.values()) {
+            for (int i = 0; i < same.size(); i++) {
+                for (int j = 0; j < i; j++) {
+                    compare(same.get(i), same.get(j));
+                }
+            }
+        }
+    }
+
+    private static void compareWithSorted(List<String> words) {
+        List<String> all = new ArrayList<>(words);
+        for (String word : words) {
+            all.add(sorted(word));
+        }
+        Lacehall hall = hallOf(all);
+        for (int i = 0; i < words.size(); i++) {
+            Check.is(words.get(i) + " is like " + sorted(words.get(i)), hall.areAlike(i, words.size() + i), true);
         }
     }
 }
