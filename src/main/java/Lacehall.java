@@ -480,6 +480,7 @@ public final class Lacehall {
     private static final class Stitch {
         private final int[] threads = new int[PLACES];
         private final int[] aboves = new int[PLACES * PLACES];
+        private final int[] crossed = new int[PLACES];
         private final int[] curves = new int[2 * PLACES];
         private int letterCount;
         private int crossingCount;
@@ -525,6 +526,14 @@ public final class Lacehall {
             int at = PLACES * upper + lower;
             if (at >= 0 && at < aboves.length) {
                 aboves[at]++;
+                countCrossed(upper);
+                countCrossed(lower);
+            }
+        }
+
+        private void countCrossed(int thread) {
+            if (thread >= 0 && thread < crossed.length) {
+                crossed[thread]++;
             }
         }
 
@@ -578,11 +587,7 @@ public final class Lacehall {
         }
 
         int crossingsOf(int thread) {
-            int sum = 0;
-            for (int other = 0; other < PLACES; other++) {
-                sum += timesAbove(thread, other) + timesAbove(other, thread);
-            }
-            return sum;
+            return thread >= 0 && thread < crossed.length ? crossed[thread] : 0;
         }
 
         int lengthFor(int thread) {
